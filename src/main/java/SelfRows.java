@@ -311,7 +311,7 @@ public final class SelfRows {
         }
     }
 
-    /** The alphabets, and the rows, each made as far as it has been asked for. */
+    /** The alphabets, and the rows, each made as far as asked for. */
     private static final class Ring {
         /** Each step makes a run at least, and all rows together have no more numbers than this. */
         private static final int STEPS_MOST = ROWS_MOST * (LAST_PLACE + 1);
@@ -366,7 +366,7 @@ public final class SelfRows {
             return asked;
         }
 
-        /** The first row, from this one on, whose next run's length is known; not all can wait, for none waits for a longer one. */
+        /** The first row, from this one on, that needs no other to grow; one there is, for each waits for a shorter one. */
         private int ripeFrom(int row) {
             int ripe = row;
             for (int i = 1; i < size && waits(ripe); i++) ripe = nextOf(ripe);
