@@ -20,6 +20,7 @@ public final class RowPromisesTest {
         run();
         begins();
         off();
+        nearRoundPlaces();
         CHECK.end();
     }
 
@@ -304,6 +305,31 @@ public final class RowPromisesTest {
                 for (int v = 1; v <= 3; v++) {
                     String call = "off(0, " + v + ", " + share + ", " + n + ")";
                     CHECK.due(call, x.off(0, v, share, n), model.off(0, v, share, n));
+                }
+            }
+        }
+    }
+
+    /** About powers of two, hundreds and thousands, where counts might be kept. */
+    private static void nearRoundPlaces() {
+        Model model = new Model();
+        model.alphabet(1, 4, 1, 3, 2, 6);
+        model.ring(2, 0, 1, 0);
+        int[] rounds = {16, 32, 50, 64, 100, 128, 250, 256, 500, 512, 1000, 1024, 2000, 2048, 4096, 5000, 8192, 10000, 16384, 32768, 50000, 65536};
+        for (int round : rounds) {
+            SelfRows x = new SelfRows();
+            x.alphabet(1, 4, 1, 3, 2, 6);
+            x.ring(2, 0, 1, 0);
+            int last = 100000 - 100000 % round;
+            int[] places = {round - 1, round, round + 1, 2 * round - 1, 2 * round, 2 * round + 1, last - 1, last};
+            for (int n : places) {
+                for (int row = 0; row < 2; row++) {
+                    if (n > 100000) continue;
+                    CHECK.due("round: count(" + row + ", 1, " + n + ")", x.count(row, 1, n), model.count(row, 1, n));
+                    CHECK.due("round: sum(" + row + ", " + n + ")", x.sum(row, n), model.sum(row, n));
+                    CHECK.due("round: run(" + row + ", " + n + ")", x.run(row, n), model.run(row, n));
+                    CHECK.due("round: begins(" + row + ", " + n + ")", x.begins(row, n), model.begins(row, n));
+                    CHECK.due("round: at(" + row + ", " + n + ")", x.at(row, n), model.at(row, n));
                 }
             }
         }

@@ -24,6 +24,7 @@ public final class WordPromisesTest {
         find();
         findRefused();
         unlike();
+        unlikeOfManyRows();
         unlikeRefused();
         told();
         digest();
@@ -425,6 +426,30 @@ public final class WordPromisesTest {
             for (int m = 1; m <= 20; m++) {
                 String call = "unlike(" + row + ", " + m + ", " + (2000 - m) + ")";
                 CHECK.due(call, x.unlike(row, m, 2000 - m), model.unlike(row, m, 2000 - m));
+            }
+        }
+    }
+
+    /** So many stretches, of so many rows, that they meet wherever a table of them has its ends. */
+    private static void unlikeOfManyRows() {
+        for (int w = 1; w <= 6; w++) {
+            for (int y = 1; y <= 6; y++) {
+                int v = w % 6 + 1, z = (w + 2) % 6 + 1;
+                if (y == v || y == z) continue;
+                SelfRows x = new SelfRows();
+                Model model = new Model();
+                x.alphabet(0, 4, w, v, y, z);
+                model.alphabet(0, 4, w, v, y, z);
+                x.alphabet(1, 3, z, w, v, 0);
+                model.alphabet(1, 3, z, w, v, 0);
+                x.ring(3, 0, 1, 0);
+                model.ring(3, 0, 1, 0);
+                for (int m = 12; m <= 20; m += 2) {
+                    for (int row = 0; row < 3; row++) {
+                        String call = "letters " + w + v + y + z + ": unlike(" + row + ", " + m + ", 2000)";
+                        CHECK.due(call, x.unlike(row, m, 2000), model.unlike(row, m, 2000));
+                    }
+                }
             }
         }
     }
