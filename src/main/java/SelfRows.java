@@ -452,7 +452,8 @@ public final class SelfRows {
 
         /** As many runs as the teller has numbers, or fewer, if there are numbers enough before. */
         void putRunsToldBy(Row teller, Alphabet letters, int enough) {
-            for (int run = runsMade(); run < teller.made() && made < enough && made < numbers.length; run++) {
+            int told = teller.made();
+            for (int run = runsMade(); run < told && made < enough && made < numbers.length; run++) {
                 putRun(letters.letterOfRun(run), teller.number(run));
             }
         }
